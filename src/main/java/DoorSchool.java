@@ -1732,7 +1732,7 @@ public final class DoorSchool {
         /** All COURSES one behind the other end in time. */
         private static final int HOURS = MOST_COURSES * MOST_COURSE_HOURS;
 
-        /** Hour by hour how many teachers are at work. */
+        /** Hour by hour how many teachers are at work; none between two searches. */
         private final int[] busy = new int[HOURS];
         private final int[] begins = new int[MOST_COURSES];
         private final int[] firstBegins = new int[MOST_COURSES];
@@ -1742,7 +1742,6 @@ public final class DoorSchool {
         private int solve(Plan plan, int by) {
             teachers = by;
             soonest = HOURS + 1;
-            Arrays.fill(busy, 0);
             Arrays.fill(begins, 0);
             placeFrom(plan, 0, 0, 0);
             return soonest;
