@@ -166,6 +166,9 @@ public final class DoingTest {
         Check.due("why(0, 3)", x.why(0, 3), 0);
         Check.due("deeds(2), told twice", x.deeds(2), 0);
         Check.due("why(2, 3), told twice", x.why(2, 3), 0);
+        DoorSchool far = Check.made("school signs 4 teachers 1;door nearest slips 0;lesson 0 0 open;");
+        Check.due("why(0, 15), four signs off", far.why(0, 15), 0);
+        Check.due("deeds(0), one lesson for all", far.deeds(0), 65535);
         DoorSchool y = Check.made("school signs 2 teachers 1;door heart slips 0;door shortest slips 0;door nearest slips 0;");
         Check.due("deeds(0) unlearned", y.deeds(0), 0);
         Check.due("deeds(1) unlearned", y.deeds(1), 15);

@@ -23,6 +23,8 @@ public final class ExamsTest {
         DoorSchool y = Check.made("school signs 2 teachers 1;door heart slips 0;");
         Check.due("marks without exams", y.marks(0), 0);
         Check.due("wrong without exams", y.wrong(0), -1);
+        y.teach(0, 0, 1);
+        Check.due("wrong without exams, 0 open", y.wrong(0), -1);
         DoorSchool z = Check.made("school signs 2 teachers 1;door heart slips 0;lesson 0 3 open;exam 3 open;exam 1 shut;exam 3 open;");
         Check.due("marks of all", z.marks(0), 3);
         Check.due("wrong of all right", z.wrong(0), -1);

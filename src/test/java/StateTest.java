@@ -92,11 +92,24 @@ public final class StateTest {
         x.teach(0, 0, 1);
         x.back(0);
         Check.due("deeds(0) of the new image", x.deeds(0), 132);
+        x.teach(3, 1, 1);
+        x.teach(1, 1, 1);
+        x.image(2);
+        x.unteach();
+        x.unteach();
+        x.teach(0, 1, 1);
+        x.teach(0, 1, 1);
+        x.back(2);
+        Check.due("unteach() of the image's latest", x.unteach(), 1);
+        Check.due("unteach() of the image's first", x.unteach(), 3);
+        Check.due("door(0, 2)", x.door(0, 2), 4);
         Check.due("image(3)", x.image(3), -2);
         Check.due("image(-1)", x.image(-1), -2);
         Check.due("back(3)", x.back(3), -2);
         Check.due("back(-1)", x.back(-1), -2);
-        Check.due("back(2)", x.back(2), -6);
+        DoorSchool y = Check.made("school signs 2 teachers 1;");
+        y.image(0);
+        Check.due("back(2) to nothing", y.back(2), -6);
     }
 
     private static void imagesWithoutSchool() {
