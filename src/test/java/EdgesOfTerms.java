@@ -221,7 +221,10 @@ final class EdgesOfTerms extends Edges {
             Run.fault(2, HEAD + COURSE + COURSE + "ahead 1 ", "0;");
             Run.fault(2, HEAD + COURSE.repeat(6) + "ahead 5 ", "4;");
             new Run().reads(8, HEAD + COURSE.repeat(6) + "ahead 4 5;").reads(8, HEAD + COURSE.repeat(6) + "ahead 0 5;");
-            new Run().reads(9, HEAD + COURSE.repeat(6) + "ahead 0 5;ahead 0 5;");
+            // Told twice it is as told once.
+            String two = HEAD.replace("teachers 1", "teachers 2") + COURSE + COURSE;
+            new Run().reads(3, two).is(3, "hours").reads(4, two + "ahead 0 1;").is(6, "hours").is(3, "begins", 1);
+            new Run().reads(5, two + "ahead 0 1;ahead 0 1;").is(6, "hours").is(3, "begins", 1);
         });
     }
 
