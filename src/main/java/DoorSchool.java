@@ -1706,23 +1706,27 @@ public final class DoorSchool {
             doorCount = doors;
             houseCount = houses;
             fewest = MOST_HOUSES * MOST_KNOCKS + 1;
-            hangFrom(0, 0, 0);
+            hangFrom(this, 0, 0, 0);
+        }
+
+        private static void hangFrom(Hanging in, int house, int taken, int sum) {
+            if (house >= in.houseCount || house >= MOST_HOUSES) {
+                in.keepIfBetter(sum);
+                return;
+            }
+            for (int door = 0; door < in.doorCount; door++) {
+                if (bit(taken, door) == 0) {
+                    in.row[house] = door;
+                    hangFrom(in, house + 1, taken | 1 << door, sum + in.amiss[house * MOST_DOORS + door]);
+                }
+            }
         }
 
         /** Rows come in order, so a later one must be better to be kept. */
-        private void hangFrom(int house, int taken, int sum) {
-            if (house >= houseCount || house >= MOST_HOUSES) {
-                if (sum < fewest) {
-                    fewest = sum;
-                    System.arraycopy(row, 0, firstRow, 0, MOST_HOUSES);
-                }
-                return;
-            }
-            for (int door = 0; door < doorCount; door++) {
-                if (bit(taken, door) == 0) {
-                    row[house] = door;
-                    hangFrom(house + 1, taken | 1 << door, sum + amiss[house * MOST_DOORS + door]);
-                }
+        private void keepIfBetter(int sum) {
+            if (sum < fewest) {
+                fewest = sum;
+                System.arraycopy(row, 0, firstRow, 0, MOST_HOUSES);
             }
         }
     }
@@ -1743,7 +1747,7 @@ public final class DoorSchool {
             teachers = by;
             soonest = HOURS + 1;
             Arrays.fill(begins, 0);
-            placeFrom(plan, 0, 0, 0);
+            placeFrom(this, plan, 0, 0, 0);
             return soonest;
         }
 
@@ -1751,20 +1755,20 @@ public final class DoorSchool {
          * Places the COURSES in every order that keeps those ahead ahead, each in its earliest hour.
          * The table that is looked for is among these: in it no COURSE can be put earlier by itself.
          */
-        private void placeFrom(Plan plan, int depth, int placed, int over) {
+        private static void placeFrom(Timetable in, Plan plan, int depth, int placed, int over) {
             if (depth >= plan.courseCount || depth >= MOST_COURSES) {
-                keepIfFirst(over);
+                in.keepIfFirst(over);
                 return;
             }
             for (int course = 0; course < plan.courseCount; course++) {
                 if (bit(placed, course) == 0 && (plan.ahead[course] & ~placed) == 0) {
-                    int hour = earliest(plan, course);
+                    int hour = in.earliest(plan, course);
                     int end = hour + plan.takes[course];
-                    if (end <= soonest && end <= HOURS) {
-                        begins[course] = hour;
-                        work(hour, end, 1);
-                        placeFrom(plan, depth + 1, placed | 1 << course, Math.max(over, end));
-                        work(hour, end, -1);
+                    if (end <= in.soonest && end <= HOURS) {
+                        in.begins[course] = hour;
+                        in.work(hour, end, 1);
+                        placeFrom(in, plan, depth + 1, placed | 1 << course, Math.max(over, end));
+                        in.work(hour, end, -1);
                     }
                 }
             }

@@ -121,6 +121,9 @@ final class EdgesOfTerms extends Edges {
             numbers(HEAD + HEART.repeat(4) + "twin ", " 1;", these("0", "2", "3"), these("4", "5"));
             numbers(HEAD + HEART.repeat(4) + "twin 1 ", ";", these("0", "2", "3"), these("4", "5"));
             numbers(HEAD + HEART + "twin 0 ", ";" + HEART, these(), these("1"));
+            // One that is told later on is none yet.
+            numbers(HEAD + "lesson ", " 0 open;" + HEART, these(), these("0"));
+            numbers(HEAD + "twin ", " 1;" + HEART + HEART, these(), these("0"));
         });
         edge(TERMS, ", C a COURSE told ahead", () -> {
             numbers(HEAD + "ahead ", " 1;", these(), these("0", "1"));

@@ -197,7 +197,11 @@ final class EdgesOfTwins extends Edges {
             likewise("sure", 0);
             likewise("sure", 1);
         });
-        edge(50, ", no such what", () -> wrongAt(Run.of(FOUR).row(0, 1, 1), -2, "sure", 1, new long[] {0, 0}, -1, 2, 3, MIN, MAX));
+        edge(50, ", no such what", () -> {
+            wrongAt(Run.of(FOUR).row(0, 1, 1), -2, "sure", 1, new long[] {0, 0}, -1, 2, 3, MIN, MAX);
+            // Asked ahead of whether the SLOT has a row, as the SLOT and the SCHOOL are.
+            wrongAt(Run.of(FOUR), -2, "sure", 1, new long[] {0, 0}, -1, 2, 3, MIN, MAX);
+        });
     }
 
     private static void ask() {

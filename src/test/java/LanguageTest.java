@@ -17,6 +17,7 @@ public final class LanguageTest {
         face();
         members();
         words();
+        methods();
         Check.finish("LanguageTest");
     }
 
@@ -66,6 +67,10 @@ public final class LanguageTest {
             }
         }
         Check.due("names of public methods", names.size(), 64);
+        for (Method method : DoorSchool.class.getDeclaredMethods()) {
+            boolean taken = Modifier.isPrivate(method.getModifiers()) && names.contains(method.getName());
+            Check.due(method + " has a name of its own", taken ? 1 : 0, 0);
+        }
         for (Class<?> inside : DoorSchool.class.getDeclaredClasses()) {
             Check.due(inside + " is static", inside.getModifiers() & Modifier.STATIC, Modifier.STATIC);
             for (Method method : inside.getDeclaredMethods()) {
@@ -108,5 +113,35 @@ public final class LanguageTest {
         while (made.find()) {
             Check.due(made.group(), inConstructors.matcher(made.group()).find() ? 1 : 0, 1);
         }
+    }
+
+    /** Rules 8 and 11: few parameters, short methods, and one that calls itself is private and static, its depth an argument. */
+    private static void methods() throws Exception {
+        Pattern head = Pattern.compile("( +)((?:private |public |static )*)[\\w<>\\[\\]]+ (\\w+)\\(([^)]*)\\) \\{");
+        String[] lines = Files.readString(SOURCE).split("\n");
+        int found = 0;
+        for (int i = 0; i < lines.length; i++) {
+            Matcher method = head.matcher(lines[i]);
+            if (!method.matches() || method.group(2).isEmpty()) {
+                continue;
+            }
+            StringBuilder body = new StringBuilder();
+            int end = i + 1;
+            while (!lines[end].equals(method.group(1) + "}")) {
+                body.append(lines[end]).append('\n');
+                end++;
+            }
+            found++;
+            String name = method.group(3);
+            Check.due(name + "() has at most 60 lines", end - i + 1 <= 60 ? 1 : 0, 1);
+            Check.due(name + "() has at most seven parameters", method.group(4).split(",").length <= 7 ? 1 : 0, 1);
+            boolean again = Pattern.compile("(?<![.\\w])" + name + "\\(").matcher(body).find();
+            if (again) {
+                Check.due(name + "() calls itself and is private and static", method.group(2).equals("private static ") ? 1 : 0, 1);
+                boolean guarded = body.toString().contains(" >= MOST_") && body.toString().contains(" + 1, ");
+                Check.due(name + "() carries its depth", guarded ? 1 : 0, 1);
+            }
+        }
+        Check.due("methods seen", found >= 150 ? 1 : 0, 1);
     }
 }
